@@ -631,7 +631,6 @@ public final class BellCars {
         int riders;
         int items;
         int line = FIRST_LINE;
-        boolean lineTold;
         final int[] seat = new int[MOST_RIDERS];
         final int[] looks = new int[MOST_RIDERS];
         final int[] law = new int[MOST_RIDERS];
@@ -640,14 +639,12 @@ public final class BellCars {
             riders = 0;
             items = 0;
             line = FIRST_LINE;
-            lineTold = false;
         }
 
         void copyFrom(Told other) {
             riders = other.riders;
             items = other.items;
             line = other.line;
-            lineTold = other.lineTold;
             System.arraycopy(other.seat, 0, seat, 0, MOST_RIDERS);
             System.arraycopy(other.looks, 0, looks, 0, MOST_RIDERS);
             System.arraycopy(other.law, 0, law, 0, MOST_RIDERS);
@@ -667,6 +664,7 @@ public final class BellCars {
         private int start;
         /** Of a NUMBER its value, of a letter alone that letter, else 0. */
         private int value;
+        private boolean lineTold;
 
         boolean add(int c) {
             if (length >= MOST_BYTES) {
@@ -680,6 +678,7 @@ public final class BellCars {
         /** Answers SOUND, or FAULT. */
         int readInto(Told told) {
             at = 0;
+            lineTold = false;
             told.forgetAll();
             advance();
             for (int i = 0; i < MOST_BYTES && sort != END; i++) {
@@ -695,7 +694,7 @@ public final class BellCars {
             if (sort == LETTERS && value == 'r' && told.riders < MOST_RIDERS) {
                 return readRider(told, told.riders) && comesEnd(told);
             }
-            if (sort == LETTERS && value == 'l' && !told.lineTold) {
+            if (sort == LETTERS && value == 'l' && !lineTold) {
                 return readLine(told) && comesEnd(told);
             }
             return false;
@@ -723,7 +722,7 @@ public final class BellCars {
                 return false;
             }
             told.line = value;
-            told.lineTold = true;
+            lineTold = true;
             return true;
         }
 

@@ -95,6 +95,9 @@ public final class CarTest {
         fault("r0 0 0r0 0 0;", 6);
         fault("r0 0 0;;", 7);
         fault("rx", 0);
+        fault("ra", 0);
+        fault("rz", 0);
+        fault("az", 0);
         fault("r x", 2);
         fault("r0 0 l;", 5);
         fault("r10 0 0;", 1);
@@ -148,6 +151,9 @@ public final class CarTest {
                 "count 4 = 0, now 0 = 0, now 1 = 7, now 2 = 0, now 3 = 0, now 4 = 0, back 0 = -2, back 1 = -2",
                 "undo = -2, trace = 1, latest 0 1 = 0, latest 1 0 = 0, rider 0 0 = 8, rider 1 0 = 2",
                 "rider 1 3 = 1, rider 1 4 = -9, laws 0 = 7, thinks 0 1 = 1");
+        Script.car("4 all anew", "r0 0 2;r0 0 2;r0 0 2;r0 0 2;r0 0 2;r0 0 2;").calls("rides = 1, thinks 5 4 = 7")
+            .type("r0 0 2;r0 0 2;r0 0 2;r0 0 2;r0 0 2;r0 0 2;").calls("car = 6, latest 0 1 = 0, latest 1 2 = 0",
+                "latest 2 3 = 0, latest 3 4 = 0, latest 4 5 = 0, latest 5 0 = 0, latest 5 4 = 0, rider 4 6 = -9");
         Script.car("4 nobody anew", "r0 3 0;r2 9 1;l3;").calls("rides = 1, car = 0, count 0 = 0, count 1 = 9",
             "now 0 = 0, now 1 = 0, rider 0 0 = -1, rider 1 0 = -1, undo = -2");
     }

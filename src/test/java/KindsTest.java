@@ -60,6 +60,8 @@ public final class KindsTest {
         Script.car("26 ten undone", FOUR).times(14, "rides").calls("keep 1 = 14").times(3, "rides").times(13, "undo").calls(
             "now 0 = 7, count 3 = 0, back 1 = 14, count 3 = 10, undo = 9, now 0 = 13, rides = 14, rides = 15, undo = 9")
             .times(8, "undo").calls("count 3 = 1, now 0 = 6, undo = 0, now 0 = 5, undo = -2");
+        Script.car("26 the oldest undone", FOUR).times(11, "rides").calls("keep 0 = 11, back 0 = 11").times(9, "undo")
+            .calls("now 0 = 2, undo = 0, now 0 = 1, now 2 = 4, undo = -2");
         Script.car("26 none undone", FOUR).calls("keep 0 = 0, rides = 1, rides = 2, back 0 = 0, count 3 = 0, undo = -2");
     }
 

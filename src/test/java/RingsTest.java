@@ -28,6 +28,9 @@ public final class RingsTest {
         // 0 and 1 think of 3 (0 later); 0 thinks of 2, too.
         Script.car("15 several", FOUR).calls("thinks 1 3 = 1, thinks 0 3 = 2, thinks 0 2 = 3",
             "row 1 -1 = 2, row 1 0 = 2, row 1 1 = -9, row 2 -1 = 0, row 3 -1 = 1, row 3 0 = 2, row 3 1 = 3, row 3 2 = -9");
+        // Whoever has rung does not ring again, though 1 would get down by it.
+        Script.car("15 unlike ringers", FOUR).calls("thinks 1 0 = 1, thinks 2 0 = 2, thinks 1 3 = 3",
+            "row 6 -1 = 2, row 6 0 = 0, row 6 1 = 3, row 6 2 = -9");
         // Each thinks of each: whoever rings, the one who thought latest of him gets down.
         Script.car("15 all", FOUR).calls("thinks 1 0 = 1, thinks 2 0 = 2, thinks 0 1 = 3, thinks 2 1 = 4",
             "row 4 -1 = 2, row 4 0 = 0, row 6 -1 = 1, row 6 0 = 1, row 6 1 = 0, row 5 -1 = 1, row 5 0 = 0, row 5 1 = 1",
@@ -57,6 +60,7 @@ public final class RingsTest {
         // By LAW 1 all think of 0, and 0 of 1: then 1 rings for 0, 0 rings for 3.
         Script.car("16 looks", "r0 9 1;r0 8 1;r0 7 1;r0 6 1;").calls("soon 1 = 1, soon 8 = 1, soon 4 = -9, soon 2 = -9",
             "soon 9 = 1, soon 12 = -9, rides = 1, soon 1 = 0, soon 2 = -9");
+        Script.car("16 by the lowest", FOUR).calls("thinks 2 0 = 1, soon 4 = 0, soon 2 = 1");
         Script.car("16 alone", "r0 0 0;").calls("soon 1 = -9, soon 0 = 0, soon 2 = -1");
         Script.car("16 at the last stop", FOUR).times(99, "rides").calls("rides = -2, soon 1 = 0, rings 0 = 3, soon 4 = 1",
             "soon 7 = -9, now 0 = 99");
@@ -73,6 +77,7 @@ public final class RingsTest {
             "thinks 1 0 = 4, odds 0 1 4 0 = 3, odds 0 3 4 0 = 6, odds 0 2 4 1 = 125");
         Script.car("17 those down do not matter", FOUR).calls("thinks 1 0 = 1, thinks 2 0 = 2, thinks 3 0 = 3",
             "thinks 3 1 = 4, rings 1 = 3, odds 0 2 4 0 = 3, odds 0 2 4 1 = 5, odds 0 3 4 0 = -1, odds 3 0 4 0 = -1");
+        Script.car("17 the lowest ahead", FOUR).calls("thinks 1 3 = 1, thinks 0 3 = 2, odds 3 1 4 0 = 6, odds 3 1 4 1 = 25");
         Script.car("17 six", RING).calls("thinks 1 0 = 1, thinks 2 0 = 2, thinks 3 0 = 3, thinks 4 0 = 4, thinks 5 0 = 5",
             "odds 0 1 9 0 = 6561, odds 0 1 9 1 = 100000, odds 0 1 2 0 = 4, odds 0 1 2 1 = 3125");
     }
