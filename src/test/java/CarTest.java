@@ -132,8 +132,7 @@ public final class CarTest {
     }
 
     private static void fault(String text, int place) {
-        Script.fresh("4 fault of '" + text + "'").type(text).calls("car = " + (-10 - place),
-            "count 4 = " + text.length() + ", count 0 = 0, count 1 = 9, car = " + (-10 - place));
+        Script.fault("4 fault", text, place);
     }
 
     private static void carLeavesAllAtFault() {

@@ -31,6 +31,12 @@ final class Script {
         return new Script(name);
     }
 
+    /** The text can't be read: FAULT is at that place, and the text stays, as all else does. */
+    static void fault(String name, String text, int place) {
+        fresh(name + ": '" + text + "'").type(text).calls("car = " + (-10 - place),
+            "count 4 = " + text.length() + ", count 0 = 0, count 1 = 9, car = " + (-10 - place));
+    }
+
     Script type(String text) {
         for (int i = 0; i < text.length(); i++) {
             cars.type(text.charAt(i));
