@@ -437,10 +437,10 @@ public final class BellCars {
     // ---- whom a ring lets down
 
     /** Whom r lets down, if those of the bits aboard are. */
-    private int downByRing(Moment m, int aboard, int r) {
+    private static int downByRing(Moment m, int aboard, int r) {
         int best = NONE;
         int bestThought = 0;
-        for (int q = 0; q < told.riders; q++) {
+        for (int q = 0; q < MOST_RIDERS; q++) {
             int thought = m.thoughtOf(q, r);
             if (q != r && (aboard >> q & 1) != 0 && thought > bestThought) {
                 best = q;
@@ -450,10 +450,10 @@ public final class BellCars {
         return best;
     }
 
-    private int downByDoubleRing(Moment m, int r) {
+    private static int downByDoubleRing(Moment m, int r) {
         int best = NONE;
         int bestThought = 0;
-        for (int q = 0; q < told.riders; q++) {
+        for (int q = 0; q < MOST_RIDERS; q++) {
             int thought = m.thoughtOf(r, q);
             if (q != r && m.isAboard(q) && thought > bestThought) {
                 best = q;
@@ -464,7 +464,7 @@ public final class BellCars {
     }
 
     /** Whom of the set r lets down in a row in which those of the bits rung have rung. */
-    private int downInRow(Moment m, int set, int aboard, int rung, int r) {
+    private static int downInRow(Moment m, int set, int aboard, int rung, int r) {
         if ((aboard >> r & 1) == 0 || (rung >> r & 1) != 0) {
             return NONE;
         }
@@ -473,7 +473,7 @@ public final class BellCars {
     }
 
     /** In how many ways a row goes on, depth rings of which have been. */
-    private int rowsFrom(Moment m, int set, int aboard, int rung, int depth) {
+    private static int rowsFrom(Moment m, int set, int aboard, int rung, int depth) {
         if ((set & aboard) == 0) {
             return 1;
         }
@@ -481,7 +481,7 @@ public final class BellCars {
             return 0;
         }
         int rows = 0;
-        for (int r = 0; r < told.riders; r++) {
+        for (int r = 0; r < MOST_RIDERS; r++) {
             int down = downInRow(m, set, aboard, rung, r);
             if (down != NONE) {
                 rows += rowsFrom(m, set, aboard & ~(1 << down), rung | 1 << r, depth + 1);
@@ -490,7 +490,7 @@ public final class BellCars {
         return rows;
     }
 
-    private int ringerAt(Moment m, int set, int i) {
+    private static int ringerAt(Moment m, int set, int i) {
         int aboard = m.aboard;
         int rung = 0;
         for (int depth = 0; depth < MOST_RIDERS; depth++) {
@@ -505,8 +505,8 @@ public final class BellCars {
     }
 
     /** The lowest one with whose ring a row goes on; NONE, if it is at its end or there is none. */
-    private int firstRinger(Moment m, int set, int aboard, int rung, int depth) {
-        for (int r = 0; r < told.riders; r++) {
+    private static int firstRinger(Moment m, int set, int aboard, int rung, int depth) {
+        for (int r = 0; r < MOST_RIDERS; r++) {
             int down = downInRow(m, set, aboard, rung, r);
             if (down != NONE
                     && rowsFrom(m, set, aboard & ~(1 << down), rung | 1 << r, depth + 1) > 0) {
@@ -749,8 +749,10 @@ public final class BellCars {
             if (at >= length) {
                 sort = END;
             } else if (c >= 'a' && c <= 'z') {
+                passBytes('a', 'z');
                 takeLetters(c);
             } else if (c >= '0' && c <= '9') {
+                passBytes('0', '9');
                 takeNumber(c);
             } else {
                 sort = c == ';' ? SEMICOLON : WRONG;
@@ -765,13 +767,11 @@ public final class BellCars {
         }
 
         private void takeLetters(int first) {
-            passBytes('a', 'z');
             sort = LETTERS;
             value = at - start == 1 ? first : 0;
         }
 
         private void takeNumber(int first) {
-            passBytes('0', '9');
             boolean zeroAhead = first == '0' && at - start > 1;
             for (int i = start; i < at; i++) {
                 // Kept just above the greatest, so that no row of digits wraps round.

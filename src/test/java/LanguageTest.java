@@ -24,6 +24,7 @@ public final class LanguageTest {
         library(code);
         madeInConstructorsAlone(code);
         methodsAreShort(code);
+        whatCallsItselfIsPrivateAndStatic(code);
         Script.finish("LanguageTest");
     }
 
@@ -86,5 +87,20 @@ public final class LanguageTest {
                 lines = 0;
             }
         }
+    }
+
+    /** Rule 8. A call of another object's method of the same name has a dot ahead. */
+    private static void whatCallsItselfIsPrivateAndStatic(String code) {
+        Matcher head = Pattern.compile("(?m)^( {4,8})([a-z][\\w\\[\\] ]* (\\w+))\\(.*\\) \\{$").matcher(code);
+        int heads = 0;
+        while (head.find()) {
+            heads++;
+            int end = code.indexOf("\n" + head.group(1) + "}", head.end());
+            String body = code.substring(head.end(), end);
+            boolean callsItself = Pattern.compile("(?<![.\\w])" + head.group(3) + "\\(").matcher(body).find();
+            Script.holds(head.group(3) + " calls itself, and is not private static",
+                !callsItself || head.group(2).startsWith("private static "));
+        }
+        Script.holds("only " + heads + " methods were found", heads > 80);
     }
 }
